@@ -915,7 +915,7 @@ public final class SpireLean {
         private static final int END = 0, NAME = 1, NUMBER = 2, CLOSE = 3;
         private static final int NO_TOKEN = 1, MISPLACED = 2, OUT_OF_BOUNDS = 3, TOLD_TWICE = 4, TOO_MANY = 5;
         /** The first four words stand in the order of the KINDS. */
-        private static final int FOOT = 4, STIFF = 5, BEARS = 6, WORDS = 7;
+        private static final int FOOT = 4, STIFF = 5, WORDS = 7;
 
         private final byte[] bytes = new byte[ROOM];
         private int length;

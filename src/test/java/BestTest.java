@@ -109,6 +109,15 @@ public final class BestTest {
         Due.due("site against 90, as great", x.site(0, 3, 43, 1), Due.NONE);
         Due.due("site against 90", x.site(0, 4, 43, 0), 43);
         Due.due("site against 90", x.site(0, 4, 43, 1), 1);
+        // held at 64 it has one step to go when the dock begins, at 54 two, at 44 three
+        x = Due.told("dock 20 74 57;stiff 20;bears 18;");
+        Due.due("site, a YEAR sooner each", x.site(1, 1, 74, 0), 64);
+        Due.due("site, a YEAR sooner each", x.site(1, 1, 74, 1), 58);
+        x.alter(0, 3, 59);
+        Due.due("site, behind 60 YEARS", x.site(1, 1, 74, 0), 64);
+        Due.due("site, behind 60 YEARS", x.site(1, 1, 74, 1), 60);
+        x.alter(0, 3, 60);
+        Due.due("site, behind 61 YEARS", x.site(1, 1, 74, 0), Due.NONE);
         // what draws later alone
         x = Due.told("chimney 20 94 60;stiff 0;foot 90;");
         Due.due("site beside one that is silent for 60 YEARS", x.site(1, 1, 91, 1), 1);

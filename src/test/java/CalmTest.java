@@ -3,6 +3,7 @@ public final class CalmTest {
     public static void main(String[] args) {
         lucks();
         means();
+        corners();
         yearsGoOnInCalm();
         Due.finish();
     }
@@ -72,6 +73,21 @@ public final class CalmTest {
         mean(x, 5, 1, 3, 2);
         mean(x, 5, 2, 1, 1);
         mean(x, 5, 3, 5, 8);
+    }
+
+    // from CELL 0 to CELL 99 and back
+    private static void corners() {
+        SpireLean x = Due.told("dock 20 99 0;stiff 0;bears 18;foot 99;");
+        x.bend(0);
+        luck(x, 5, 0, 1, 1, 2);
+        luck(x, 5, 10, 1, 1, 2);
+        luck(x, 5, 0, 2, 1, 4);
+        mean(x, 5, 0, 18, 1);
+        mean(x, 5, 1, 35, 2);
+        luck(x, 10, 0, 8, 1, 1);
+        x.bend(99);
+        luck(x, 5, 99, 8, 1, 1);
+        luck(x, 5, 0, 8, 0, 1);
     }
 
     // a draw that begins in YEAR 2 moves it in the third, calm or not before

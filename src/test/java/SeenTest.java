@@ -126,6 +126,10 @@ public final class SeenTest {
         Due.due("ask(-1, 0)", x.ask(-1, 0), Due.BAD);
         Due.due("ask(0, 2)", x.ask(0, 2), Due.BAD);
         Due.due("ask(0, -1)", x.ask(0, -1), Due.BAD);
+        // from CELL 0, where the first has 60, a pull of 3 and more takes it to CELL 1
+        x = Due.told("chimney 1 0 0;chimney 3 1 0;stiff 0;foot 0;");
+        Due.due("ask(1, 0)", x.ask(1, 0), 1);
+        Due.due("ask(1, 1)", x.ask(1, 1), 18);
         // nothing is told ahead of its SINCE; behind 30 YEARS is near enough, behind 31 is not
         x = Due.told("chimney 9 34 29;chimney 3 54 29;stiff 0;");
         Due.due("ask(1, 0)", x.ask(1, 0), 30);

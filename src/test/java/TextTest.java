@@ -103,6 +103,8 @@ public final class TextTest {
         x.keep(0);
         x.keep(1);
         x.sheet(0, 0, 7);
+        x.runs(60, 0);
+        x.read(0, 0, 0, 3);
         Due.feed(x, "market 2 3 4;");
         Due.due("text()", x.text(), 1);
         int[] rules = {1, 0, 44, 44, 0, 0, Due.NONE, 0, 2, 9};
@@ -171,6 +173,10 @@ public final class TextTest {
         Due.faulty("bishop 1 1 1;", 0, 2);
         Due.faulty(" docks 1 1 1;", 1, 2);
         Due.faulty("doc 1 1 1;", 0, 2);
+        Due.faulty("rock 1 1 1;", 0, 2);
+        Due.faulty("doci 1 1 1;", 0, 2);
+        Due.faulty("z", 0, 2);
+        Due.faulty("a", 0, 2);
         Due.faulty("dockfoot 1;", 0, 2);
         Due.faulty("9 foot;", 0, 2);
         Due.faulty(";", 0, 2);
