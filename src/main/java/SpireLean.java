@@ -39,7 +39,8 @@ public final class SpireLean {
     private final Sightings seen = new Sightings();
     private final Odds odds = new Odds();
     private final Sheet[] sheets = new Sheet[SHEETS];
-    private final int[][] paths = new int[MOST_PULL + 1][MOST_LOOK + 1];
+    /** Where each PULL that is possible would have THE POINT by now. */
+    private final int[] points = new int[MOST_PULL + 1];
     private final int[] tally = new int[CELLS];
     private int textFault;
     private int readFault;
@@ -429,15 +430,16 @@ public final class SpireLean {
             return BAD;
         }
         int possible = fittingBits(i, PULL);
-        tracePaths(i, possible);
+        gatherPoints();
         int best = NONE;
         int fewest = Integer.bitCount(possible);
         for (int n = 0; n <= MOST_LOOK; n++) {
-            int left = mostLeft(n, possible);
+            int left = mostLeft(possible);
             if (left < fewest) {
                 best = n;
                 fewest = left;
             }
+            movePoints(i, possible);
         }
         return chosen(best, fewest, what);
     }
@@ -641,27 +643,38 @@ public final class SpireLean {
         return bits;
     }
 
-    private void tracePaths(int i, int possible) {
+    /** All PULLS have THE POINT where it is now, and the trial is in the YEAR of all of them. */
+    private void gatherPoints() {
+        trial.copyFrom(live);
         for (int v = LEAST[PULL]; v <= MOST[PULL]; v++) {
-            if ((possible >> v & 1) == 1) {
-                suppose(i, PULL, v);
-                for (int n = 0; n <= MOST_LOOK; n++) {
-                    paths[v][n] = trial.point;
-                    trial.passYear();
-                }
-            }
+            points[v] = live.point;
         }
     }
 
-    /** How many of the possible PULLS are left, at the worst, by a look behind n YEARS. */
-    private int mostLeft(int n, int possible) {
+    /** A YEAR goes by for each of the possible PULLS by itself. */
+    private void movePoints(int i, int possible) {
+        int year = trial.year;
+        for (int v = LEAST[PULL]; v <= MOST[PULL]; v++) {
+            if ((possible >> v & 1) == 1) {
+                trial.setTrait(i, PULL, v);
+                trial.point = points[v];
+                trial.year = year;
+                trial.passYear();
+                points[v] = trial.point;
+            }
+        }
+        trial.year = year + 1;
+    }
+
+    /** How many of the possible PULLS are left, at the worst, by a look at where THE POINT is. */
+    private int mostLeft(int possible) {
         for (int c = 0; c < CELLS; c++) {
             tally[c] = 0;
         }
         int most = 0;
         for (int v = LEAST[PULL]; v <= MOST[PULL]; v++) {
             if ((possible >> v & 1) == 1) {
-                int c = paths[v][n];
+                int c = points[v];
                 tally[c]++;
                 most = Math.max(most, tally[c]);
             }

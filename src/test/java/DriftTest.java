@@ -32,13 +32,13 @@ public final class DriftTest {
 
     private static void againstModel() {
         int[] seeds = {0, 1, -1, 7, 12345, Integer.MIN_VALUE, Integer.MAX_VALUE, 305419896};
-        SpireLean x = Due.told(Due.TOWN);
         Model m = new Model();
         for (char c : Due.TOWN.toCharArray()) {
             m.feed(c);
         }
         m.text();
         for (int seed : seeds) {
+            SpireLean x = Due.told(Due.TOWN);
             for (int n = 1; n <= 60; n++) {
                 Due.due("drift(" + seed + ", " + n + ", 0)", x.drift(seed, n, 0), m.drift(seed, n, 0));
                 Due.due("drift(" + seed + ", " + n + ", 1)", x.drift(seed, n, 1), m.drift(seed, n, 1));

@@ -58,8 +58,11 @@ public final class ExtremesTest {
                 x.years(30);
             }
             x.years(9);
-            for (int i = 0; i < 200; i++) {
+            // full, and still far from the 512 calls for which an object is used
+            for (int i = 1; i < 160; i++) {
                 x.feed('0');
+            }
+            for (int i = 1; i < 6; i++) {
                 x.see(30, 99);
             }
             x.bend(0);

@@ -246,12 +246,14 @@ public final class TextTest {
         }
         SpireLean x = Due.told(text.toString());
         Due.due("rule(9)", x.rule(9), 3);
+        x = new SpireLean();
         Due.feed(x, "a".repeat(160));
         Due.due("a name of 160 letters", x.text(), -10);
         Due.due("fault()", x.fault(), 2);
         Due.feed(x, "foot " + "7".repeat(155));
         Due.due("a number of 155 figures", x.text(), -15);
         Due.due("fault()", x.fault(), 1);
+        x = new SpireLean();
         Due.feed(x, "foot 7" + " ".repeat(154));
         Due.due("the end behind 160 bytes", x.text(), -170);
         Due.due("fault()", x.fault(), 2);
