@@ -189,6 +189,11 @@ public final class BestBoundsTest {
         x = Due.told("foot 1;");
         Due.due("from 1 to 0", x.site(0, 1, 0, 0), 0);
         Due.due("from 1 to 0", x.site(0, 1, 0, 1), 1);
+        // a CELL 100, if there were one, would do
+        x = Due.told("dock 15 99 2;foot 71;stiff 11;bears 12;");
+        Due.due("no CELL behind 99", x.site(0, 6, 95, 0), Due.NONE);
+        x = Due.told("chapel 10 49 55;foot 71;stiff 10;bears 12;");
+        Due.due("no CELL behind 99", x.site(1, 2, 84, 0), Due.NONE);
         x = Due.told("foot 97;");
         Due.due("from 97 to 99", x.site(3, 20, 99, 0), 99);
         Due.due("from 97 to 99", x.site(3, 20, 99, 1), 2);
