@@ -75,6 +75,8 @@ public final class LanguageTest {
         for (Class<?> c : SpireLean.class.getDeclaredClasses()) {
             Due.due("static: " + c, Modifier.isStatic(c.getModifiers()) ? 1 : 0, 1);
             for (Method m : c.getDeclaredMethods()) {
+                boolean bearsPublicName = FACE.contains(" " + m.getName() + "(");
+                Due.due("bears a public name: " + m, bearsPublicName ? 1 : 0, 0);
                 Due.due("parameters of " + m, m.getParameterCount() <= 7 ? 1 : 0, 1);
             }
             fieldsOf(c);
